@@ -8,7 +8,8 @@ public final class PriceUpon {
     private static final int TOP = 41;
     private static final int PRICES = TOP + 1;
     private static final int MOST_HOUSES = 8;
-    private static final int MOST_SETS = 1 << MOST_HOUSES;
+    // house 0 never buys, so sets of houses that buy are even numbers
+    private static final int MOST_SETS = 1 << MOST_HOUSES - 1;
     private static final int MOST_TRADES = 10;
     private static final int MOST_BYTES = 300;
     private static final int MOST_LOTS = 20;
@@ -451,7 +452,11 @@ public final class PriceUpon {
         }
 
         boolean same(Terms that) {
-            return joined == that.joined && cap == that.cap && alike == that.alike && halved == that.halved
+            return joined == that.joined && sameButJoined(that);
+        }
+
+        boolean sameButJoined(Terms that) {
+            return cap == that.cap && alike == that.alike && halved == that.halved
                     && dearHouse == that.dearHouse && dearBy == that.dearBy;
         }
 
@@ -703,19 +708,23 @@ public final class PriceUpon {
         final int[] sold = new int[MOST_HOUSES];
         final int[] earned = new int[MOST_HOUSES];
 
-        /** A text never changes once it is a trade, so the same trade and terms need no second reckoning. */
+        /** A text never changes once it is a trade, so only what other terms can change is reckoned anew. */
         void settle(Trade t, Terms wanted) {
             if (settled == t && terms.same(wanted)) {
                 return;
             }
+            int stale = lastStale(t, wanted);
             settled = t;
             terms.copy(wanted);
             for (int h = 0; h < t.size; h++) {
                 cost[h] = t.cost[h] + (h == terms.dearHouse ? terms.dearBy : 0);
             }
             // who buys has the higher number, so what clients would do is known before their source asks
-            for (int h = t.size - 1; h >= 0; h--) {
-                foresee(t, h);
+            for (int h = stale; h >= 0; h--) {
+                int last = lastRow(t, h);
+                for (int u = row(cost[h]); u <= last; u++) {
+                    reckon(t, h, u);
+                }
             }
             for (int h = 0; h < t.size; h++) {
                 trace(t, h);
@@ -725,13 +734,21 @@ public final class PriceUpon {
             }
         }
 
-        /** No u is below a house's own cost, and a maker's is that cost alone: other rows are not needed. */
-        private void foresee(Trade t, int h) {
-            int low = row(cost[h]);
-            int high = t.source[h] == NONE ? low : TOP;
-            for (int u = low; u <= high; u++) {
-                reckon(t, h, u);
+        /** Whether a house is joined matters to those it buys from, all lower, and not to its own rows. */
+        private int lastStale(Trade t, Terms wanted) {
+            if (settled != t || !terms.sameButJoined(wanted)) {
+                return t.size - 1;
             }
+            int last = t.size - 1;
+            while (last >= 0 && terms.joins(last) == wanted.joins(last)) {
+                last--;
+            }
+            return last - 1;
+        }
+
+        /** No u is below a house's own cost, and a maker's is that cost alone: other rows are not needed. */
+        private int lastRow(Trade t, int h) {
+            return t.source[h] == NONE ? row(cost[h]) : TOP;
         }
 
         private void reckon(Trade t, int h, int u) {
@@ -969,9 +986,9 @@ public final class PriceUpon {
             pairedShop = shop;
             pairCount = 0;
             for (int w = 0; w < PARTED_PRICES; w++) {
+                int spent = HUNDRED * (w + t.cost[shop]);
                 for (int s = 0; s < HUNDRED; s++) {
-                    int spent = HUNDRED * (w + t.cost[shop]);
-                    if (isBest(t.wants[shop], price, HUNDRED - s, spent)) {
+                    if (isBest(t.wants[shop], price, HUNDRED - s, spent) && pairCount < pairs.length) {
                         pairs[pairCount] = HUNDRED * w + s;
                         pairCount++;
                     }
@@ -1072,6 +1089,7 @@ public final class PriceUpon {
     /** Which houses would rather be one. */
     private static final class Joining {
         private final int[] head = new int[MOST_HOUSES];
+        // by half the set, and the house
         private final int[][] earned = new int[MOST_SETS][MOST_HOUSES];
 
         /** What those that are one with the house under the joined set earn more after than before. */
@@ -1092,19 +1110,19 @@ public final class PriceUpon {
         /** The terms are the trade's own, and their joined houses are used up for the trying. */
         void findRests(Trade t, Terms terms, Market market) {
             int buying = buyingHouses(t);
-            for (int set = 0; set <= buying && set < MOST_SETS; set++) {
-                if ((set & ~buying) == 0) {
-                    terms.joined = set;
+            for (int half = 0; half < MOST_SETS; half++) {
+                if ((2 * half & ~buying) == 0) {
+                    terms.joined = 2 * half;
                     market.settle(t, terms);
                     for (int h = 0; h < t.size; h++) {
-                        earned[set][h] = market.earned[h];
+                        earned[half][h] = market.earned[h];
                     }
                 }
             }
             t.restCount = 0;
-            for (int set = 0; set <= buying && set < MOST_SETS; set++) {
-                if ((set & ~buying) == 0 && isAtRest(t, buying, set)) {
-                    t.rest[t.restCount] = set;
+            for (int half = 0; half < MOST_SETS; half++) {
+                if ((2 * half & ~buying) == 0 && isAtRest(t, buying, half) && t.restCount < MOST_SETS) {
+                    t.rest[t.restCount] = 2 * half;
                     t.restCount++;
                 }
             }
@@ -1121,10 +1139,11 @@ public final class PriceUpon {
             return bits;
         }
 
-        private boolean isAtRest(Trade t, int buying, int set) {
-            for (int h = 0; h < t.size; h++) {
-                int bit = 1 << h;
-                if ((buying & ~set & bit) != 0 && better(t, set | bit, h, earned[set], earned[set | bit]) > 0) {
+        private boolean isAtRest(Trade t, int buying, int half) {
+            int open = buying & ~(2 * half);
+            for (int h = 1; h < t.size; h++) {
+                int more = half | 1 << h - 1;
+                if ((open >> h & 1) != 0 && better(t, 2 * more, h, earned[half], earned[more]) > 0) {
                     return false;
                 }
             }
