@@ -69,6 +69,9 @@ public final class ChanceTest {
         check.due("seller what 2", x.seller(1, 1, 1, 2), PriceUpon.HIDDEN);
         check.due("seller what -1", x.seller(1, 1, 1, -1), PriceUpon.HIDDEN);
         check.due("clear of twelve", x.clear(), 12);
+        x.chance(1, 5);
+        check.due("stock of one", x.stock(5, 2, 0), 1);
+        x.clear();
         check.due("chance anew", x.chance(0, 1), 1);
         check.due("stock of what nobody wants", x.stock(41, 1, 0), 0);
     }

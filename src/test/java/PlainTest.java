@@ -116,10 +116,13 @@ public final class PlainTest {
     }
 
     private static void told() {
-        for (int k = 0; k < 4; k++) {
+        for (int k = 0; k < 6; k++) {
+            // near what is free, so that few would do otherwise
+            int shaken = k == 1 ? -1 : random.nextInt(plain.n);
             for (int h = 0; h < plain.n; h++) {
-                plain.pay[h] = k == 1 ? plain.free().paid(h) : random.nextInt(42);
-                plain.ask[h] = k == 1 ? Math.max(0, plain.free().asked(h)) : random.nextInt(42);
+                boolean near = k > 0 && k < 4 && h != shaken;
+                plain.pay[h] = near ? plain.free().paid(h) : random.nextInt(42);
+                plain.ask[h] = near ? Math.max(0, plain.free().asked(h)) : random.nextInt(42);
                 check.due("tell to pay", x.tell(t, h, false, plain.pay[h]), true);
                 check.due("tell to ask", x.tell(t, h, true, plain.ask[h]), true);
             }

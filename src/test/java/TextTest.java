@@ -43,6 +43,17 @@ public final class TextTest {
         check.due("feed of one over 300", x.feed(0, 0x100, 0, 0, 0), -1);
         check.due("feed of none at 300", x.feed(0, 0, 0, 0, 0), 300);
         check.due("fault of a byte of 255", x.fault(), 0);
+        // each byte counts for itself, whatever it is and wherever it stands
+        for (int k = 0; k < 20; k++) {
+            x.end(299);
+            int[] two = new int[5];
+            two[k / 4] |= 1 << 8 * (k % 4) + k % 8;
+            check.due("feed of one of five", x.feed(two[0], two[1], two[2], two[3], two[4]), 300);
+            x.end(299);
+            two[(k + 7) % 20 / 4] |= 64 << 8 * ((k + 7) % 4);
+            check.due("feed of two of five", x.feed(two[0], two[1], two[2], two[3], two[4]), -1);
+            check.due("count(2) after it", x.count(2), 299);
+        }
     }
 
     private static void ending() {

@@ -104,7 +104,6 @@ public final class WorkedTest {
     }
 
     private static void alikes() {
-        // to house 1 alone 10, to house 2 alone 4; to both 4 (16 of 4 pieces, 10 of one)
         PriceUpon x = Check.of("n 4;b 0 1;b 0 2;b 0 3;w 1 10 1;w 2 4 3;w 3 20 1");
         outcome(x, 1, 10, 10, 1, 0);
         outcome(x, 3, 20, 20, 1, 0);
@@ -176,6 +175,24 @@ public final class WorkedTest {
         check.due("doers by the same price", x.doers(0), 0);
         x.tell(0, 1, false, 2);
         check.due("doers by another price", x.doers(0), 1);
+        // at 4 house 1 would take 4 with two prices of its own, but 1 with one price for both
+        x = Check.of("n 4;b 0 1;b 1 2;b 1 3;w 2 10 1;w 3 4 3");
+        x.law(0, 41, true);
+        int[][] told = {{0, 0}, {10, 0}, {10, 10}, {5, 5}};
+        tellAll(x, told);
+        check.due("doers by free prices", x.doers(0), 1);
+        // who pays too much does better to sell none, at 41
+        x = Check.of("n 2;b 0 1;w 1 40 1;c 0 9");
+        tellAll(x, new int[][] {{41, 0}, {40, 40}});
+        check.due("given at a loss", x.given(0, 0), -10);
+        check.due("doers by 41 alone", x.doers(0), 1);
+    }
+
+    private static void tellAll(PriceUpon x, int[][] told) {
+        for (int h = 0; h < told.length; h++) {
+            check.due("tell to pay", x.tell(0, h, false, told[h][0]), true);
+            check.due("tell to ask", x.tell(0, h, true, told[h][1]), true);
+        }
     }
 
     private static void fees() {
@@ -230,6 +247,9 @@ public final class WorkedTest {
             check.due("rivals of unlike u " + i, x.rivals(0, 0, 1, 1, 3, i), unlike[i]);
         }
         check.due("rivals the other way", x.rivals(0, 1, 0, 3, 1, 0), 64 * 3 + 2);
+        x = Check.of("n 2;w 0 40 1;w 1 40 1");
+        check.due("rivals who can but lose", x.rivals(0, 0, 1, 41, 41, -1), 1);
+        check.due("both at 41", x.rivals(0, 0, 1, 41, 41, 0), 64 * 41 + 41);
     }
 
     private static void makers() {
