@@ -34,6 +34,16 @@ final class Check {
         due("house(" + trade + ", " + house + ", " + what + ") throws", thrown, true);
     }
 
+    /** A text on an object of its own: its fault (NONE where it is right), and that it is a trade only then. */
+    void reads(String text, int fault) {
+        PriceUpon x = new PriceUpon();
+        type(x, text);
+        due("fault of '" + text + "'", x.fault(), fault);
+        due("trade of '" + text + "'", x.trade(), fault == -1 ? 0 : -1);
+        due("count(2) after '" + text + "'", x.count(2), fault == -1 ? 0 : text.length());
+        due("count(0) after '" + text + "'", x.count(0), fault == -1 ? 1 : 0);
+    }
+
     /** Puts a text on the tape as it is, whatever stood there. */
     static void type(PriceUpon x, String text) {
         x.end(0);

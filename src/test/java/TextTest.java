@@ -72,12 +72,7 @@ public final class TextTest {
     }
 
     private static void fault(String text, int want) {
-        PriceUpon x = new PriceUpon();
-        Check.type(x, text);
-        check.due("fault of '" + text + "'", x.fault(), want);
-        check.due("trade of '" + text + "'", x.trade(), want == -1 ? 0 : -1);
-        check.due("count(2) after '" + text + "'", x.count(2), want == -1 ? 0 : text.length());
-        check.due("count(0) after '" + text + "'", x.count(0), want == -1 ? 1 : 0);
+        check.reads(text, want);
     }
 
     private static void faults() {
