@@ -108,6 +108,10 @@ public final class ChanceTest {
         Random random = new Random(5);
         PriceUpon x = new PriceUpon();
         for (int k = 0; k < 300; k++) {
+            if (k % 24 == 0) {
+                x = new PriceUpon();
+                chances.clear();
+            }
             check.due("clear", x.clear(), chances.size());
             chances.clear();
             for (int c = random.nextInt(12); c >= 0; c--) {

@@ -16,6 +16,7 @@ public final class EdgeChanceTest {
         rather();
         ratherByThoseThatAreOne();
         restsOfEachShape();
+        onlyAllAtRest();
         restsJustSo();
         restsByTerms();
         check.end();
@@ -244,6 +245,28 @@ public final class EdgeChanceTest {
         for (int i = -1; i < 1; i++) {
             due("trade 1", y.rests(1, i), -1);
             due("trade -1", y.rests(-1, i), -1);
+        }
+    }
+
+    /** Each of the houses that buy would rather be joined, whoever else is: only all of them are at rest. */
+    private static void onlyAllAtRest() {
+        for (int n = 1; n <= 8; n++) {
+            StringBuilder star = new StringBuilder("n " + n + ";c 0 1");
+            for (int h = 1; h < n; h++) {
+                star.append(";b 0 ").append(h).append(";c ").append(h).append(" 1");
+                star.append(";w ").append(h).append(" 9 2;w ").append(h).append(" 5 3");
+            }
+            PriceUpon x = Check.of(star.toString());
+            int all = (1 << n) - 2;
+            due("one set of " + n, x.rests(0, -1), 1);
+            due("all of " + n, x.rests(0, 0), all);
+            due("no second of " + n, x.rests(0, 1), -1);
+            for (int h = 1; h < n; h++) {
+                x.join(0, all - (1 << h));
+                due("rather of the last one out", x.rather(0, h), 1);
+                x.join(0, 0);
+                due("rather of the first one in", x.rather(0, h), 1);
+            }
         }
     }
 

@@ -17,6 +17,7 @@ public final class EdgeTextTest {
         feeding();
         ending();
         tenTrades();
+        firstAndLastTrade();
         mendedTape();
         housesOfEachSize();
         shopsAndOthers();
@@ -301,6 +302,40 @@ public final class EdgeTextTest {
         check.due("houses(10)", x.houses(10), -1);
         for (int k = 0; k < 10; k++) {
             check.due("each stays what it was", x.house(k, 0, 0), k);
+        }
+    }
+
+    /** The first and the last trade are right wherever a trade is named; RefusalTest has those next to them. */
+    private static void firstAndLastTrade() {
+        PriceUpon x = new PriceUpon();
+        for (int k = 0; k < 10; k++) {
+            Check.type(x, "n 3;b 0 1;b 0 2;w 1 9 2;w 2 5 1;e 1 " + k);
+            x.trade();
+        }
+        for (int t = 0; t < 10; t += 9) {
+            check.due("house", x.house(t, 1, 2), t);
+            check.due("houses", x.houses(t), 3);
+            check.due("want", x.want(t, 1, 9), 2);
+            check.due("join", x.join(t, 2), true);
+            check.due("law", x.law(t, 8, true), true);
+            check.due("halve", x.halve(t, true), true);
+            check.due("tell", x.tell(t, 1, true, 7), true);
+            check.due("ask", x.ask(t, 1, 3), 8);
+            check.due("take", x.take(t, 1, 3), 2);
+            check.due("outcome", x.outcome(t, 1, 3), 16);
+            check.due("sum", x.sum(t, 1), 21);
+            check.due("passed", x.passed(t, 0, 9, 1), 33);
+            check.due("gain", x.gain(t, 1), -2);
+            check.due("gain of buyers", x.gain(t, -1), 2);
+            check.due("given", x.given(t, 1), 14);
+            check.due("doers", x.doers(t), 7);
+            check.due("fee", x.fee(t, 1, 0), 18 - t);
+            check.due("parts", x.parts(t, 1, 0), 0);
+            check.due("takings", x.takings(t, 1, 0), 10000);
+            check.due("rivals", x.rivals(t, 1, 2, 0, 0, -1) > 0, true);
+            check.due("makers", x.makers(t, 0, 1, 2, -1) > 0, true);
+            check.due("rather", x.rather(t, 2), 0);
+            check.due("rests", x.rests(t, -1) > 0, true);
         }
     }
 

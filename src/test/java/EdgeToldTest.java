@@ -9,6 +9,7 @@ public final class EdgeToldTest {
         toldAtFirst();
         toldPrices();
         toldTermsCountForNothing();
+        othersAskedWithTermsAheadOfIt();
         shopsThatWouldDoOtherwise();
         sellersThatWouldDoOtherwise();
         otherPricesAtTheEnds();
@@ -96,6 +97,23 @@ public final class EdgeToldTest {
             due("given 0", x.given(0, 0), 7);
             due("given 1", x.given(0, 1), 2);
             due("doers", x.doers(0), 1);
+        }
+    }
+
+    /** At 4 house 1 would take 4 with a price for each of its own, but 1 with one price for both, and none under a cap. */
+    private static void othersAskedWithTermsAheadOfIt() {
+        PriceUpon x = told("n 4;b 0 1;b 1 2;b 1 3;w 2 10 1;w 3 4 3", 0, 0, 10, 0, 10, 10, 5, 5);
+        for (int round = 0; round < 2; round++) {
+            x.law(0, round == 0 ? 41 : 0, true);
+            x.halve(0, round == 1);
+            x.rather(0, 1);
+            due("doers behind rather", x.doers(0), 1);
+            x.gain(0, 1);
+            x.passed(0, 1, 30, 2);
+            due("doers behind passed", x.doers(0), 1);
+            x.rests(0, -1);
+            due("doers behind rests", x.doers(0), 1);
+            due("fee behind doers", x.fee(0, 0, 0), 22);
         }
     }
 

@@ -6,6 +6,7 @@ import java.lang.reflect.Modifier;
 import java.nio.file.Files;
 import java.nio.file.Path;
 import java.util.Arrays;
+import java.util.NoSuchElementException;
 import java.util.TreeSet;
 
 /** The face is the document's and no more, and the source keeps to what LANGUAGE.md lets be seen in its text. */
@@ -39,6 +40,8 @@ public final class FaceTest {
                 check.due("a private name of its own: " + sign, names.contains(m.getName()), false);
             } else {
                 check.due("public: " + sign, Modifier.isPublic(m.getModifiers()) && due.remove(sign), true);
+                boolean throwing = Arrays.equals(m.getExceptionTypes(), new Class<?>[] {NoSuchElementException.class});
+                check.due("throws: " + sign, m.getName().equals("house") ? throwing : m.getExceptionTypes().length == 0, true);
             }
         }
         check.due("missing: " + due, due.size(), 0);

@@ -6,9 +6,12 @@ public final class FaultTest {
     private static final Random random = new Random(7);
 
     public static void main(String[] args) {
-        PriceUpon x = new PriceUpon();
+        PriceUpon x = null;
         int right = 0;
         for (int k = 0; k < 60000; k++) {
+            if (k % 24 == 0) {
+                x = new PriceUpon();
+            }
             String text = k % 3 == 0 ? someText() : spoil(someText());
             if (text.length() > 300) {
                 text = text.substring(0, 300);

@@ -11,26 +11,44 @@ public final class PlainTest {
 
     public static void main(String[] args) {
         for (int k = 0; k < 260; k++) {
-            if (k % 10 == 0) {
-                x = new PriceUpon();
-            }
-            t = k % 10;
             plain = someTrade(k % 26 == 25 ? 8 : 1 + random.nextInt(6), k % 3);
-            Check.type(x, plain.text());
-            check.due("trade() of " + plain.text(), x.trade(), t);
+            t = plain.n == 8 ? k % 4 : k % 10;
+            anew();
             facts();
             rests();
+            anew();
             for (int round = 0; round < 3; round++) {
                 someTerms(round);
                 free();
                 laws();
             }
             rests();
+            anew();
             told();
-            healed();
+            for (int h = 0; h < plain.n; h++) {
+                anew();
+                healed(h);
+            }
+            anew();
             duels();
         }
         check.end();
+    }
+
+    /** The trade in an object of its own, with its terms, so that none sees more than 512 calls. */
+    private static void anew() {
+        x = new PriceUpon();
+        for (int k = 0; k <= t; k++) {
+            Check.type(x, k < t ? "n 2;b 0 1;w 1 9 9" : plain.text());
+            check.due("trade() of " + plain.text(), x.trade(), k);
+        }
+        tellTerms();
+    }
+
+    private static void tellTerms() {
+        check.due("join", x.join(t, plain.joined), true);
+        check.due("law", x.law(t, plain.cap, plain.alike), true);
+        check.due("halve", x.halve(t, plain.halved), true);
     }
 
     private static Plain someTrade(int n, int kind) {
@@ -77,9 +95,7 @@ public final class PlainTest {
         boolean alike = random.nextBoolean();
         boolean halved = random.nextInt(3) == 0;
         plain = plain.with(joined, cap, alike, halved);
-        check.due("join", x.join(t, joined), true);
-        check.due("law", x.law(t, cap, alike), true);
-        check.due("halve", x.halve(t, halved), true);
+        tellTerms();
     }
 
     private static void free() {
@@ -133,23 +149,21 @@ public final class PlainTest {
         }
     }
 
-    private static void healed() {
-        for (int h = 0; h < plain.n; h++) {
-            due("fee " + h + " 0", x.fee(t, h, 0), plain.fee(h));
-            due("fee " + h + " 1", x.fee(t, h, 1), plain.heals());
-            if (!plain.shop(h) || plain.from[h] < 0) {
-                due("parts of no such shop", x.parts(t, h, -1), -1);
-                due("takings of no such shop", x.takings(t, h, 0), PriceUpon.HIDDEN);
-                continue;
-            }
-            List<Integer> pairs = plain.parts(h);
-            due("parts " + h, x.parts(t, h, -1), pairs.size());
-            due("parts past the end", x.parts(t, h, pairs.size()), -1);
-            due("takings past the end", x.takings(t, h, pairs.size()), PriceUpon.HIDDEN);
-            for (int k = 0; k < pairs.size(); k += 1 + random.nextInt(60)) {
-                due("parts " + h + " " + k, x.parts(t, h, k), pairs.get(k));
-                due("takings " + h + " " + k, x.takings(t, h, k), plain.takings(h, pairs.get(k)));
-            }
+    private static void healed(int h) {
+        due("fee " + h + " 0", x.fee(t, h, 0), plain.fee(h));
+        due("fee " + h + " 1", x.fee(t, h, 1), plain.heals());
+        if (!plain.shop(h) || plain.from[h] < 0) {
+            due("parts of no such shop", x.parts(t, h, -1), -1);
+            due("takings of no such shop", x.takings(t, h, 0), PriceUpon.HIDDEN);
+            return;
+        }
+        List<Integer> pairs = plain.parts(h);
+        due("parts " + h, x.parts(t, h, -1), pairs.size());
+        due("parts past the end", x.parts(t, h, pairs.size()), -1);
+        due("takings past the end", x.takings(t, h, pairs.size()), PriceUpon.HIDDEN);
+        for (int k = 0; k < pairs.size(); k += 1 + random.nextInt(60)) {
+            due("parts " + h + " " + k, x.parts(t, h, k), pairs.get(k));
+            due("takings " + h + " " + k, x.takings(t, h, k), plain.takings(h, pairs.get(k)));
         }
     }
 

@@ -44,6 +44,8 @@ public final class RefusalTest {
         tapes();
         from(State.FULL);
         refused("trade with ten", x -> x.trade(), -1);
+        noTrade(10);
+        noTrade(-1);
         refused("chance with twelve", x -> x.chance(3, 3), -1);
         refused("feed over 300", x -> x.feed(0, 0, 0, 0, 'n'), -1);
         refused("feed of twenty over 300", x -> x.feed(-1, -1, -1, -1, -1), -1);
